@@ -481,7 +481,7 @@ public final class OilHome {
         return what == NONE ? sharedLength(best, day) : lorryOf(best, what);
     }
 
-    /** Shares are a number with a digit for each stop, the first stop's the highest: so the first of like ones is the least row. */
+    /** Shares are a number with a digit for each stop, the first stop's the highest: the first of like ones is the least row. */
     private int bestShares(int day) {
         int all = 1;
         for (int i = 0; i < ways.count; i++) {
@@ -1236,7 +1236,7 @@ public final class OilHome {
     /** The bytes that were fed and not yet used. */
     private static final class Tape {
         static final int ROOM = 200;
-        private final int[] bytes = new int[ROOM];
+        final int[] bytes = new int[ROOM];
         private int length;
 
         int length() {
@@ -1309,7 +1309,9 @@ public final class OilHome {
         }
 
         int add(int kind, int argument) {
-            Tables.put(steps, length, kind << KIND | argument);
+            if (length >= 0 && length < steps.length) {
+                steps[length] = kind << KIND | argument;
+            }
             length++;
             return length - 1;
         }
@@ -1347,7 +1349,7 @@ public final class OilHome {
             return run(Tables.at(sumFrom, clause), Tables.at(conditionFrom, clause), letters);
         }
 
-        /** What lies on top at the end; 0 if it is refused, which is an E of 0 and a C that does not hold. Jumps go forward alone. */
+        /** What lies on top at the end; 0 if it is refused: an E of 0, a C that does not hold. Jumps go forward alone. */
         private int run(int from, int to, int[] letters) {
             top = 0;
             refused = false;
@@ -1418,13 +1420,18 @@ public final class OilHome {
         }
 
         private void push(int value) {
-            Tables.put(stack, top, value);
-            top++;
+            if (top >= 0 && top < stack.length) {
+                stack[top] = value;
+                top++;
+            }
         }
 
         private int pop() {
-            top = Math.max(top - 1, 0);
-            return Tables.at(stack, top);
+            if (top <= 0 || top > stack.length) {
+                return 0;
+            }
+            top--;
+            return stack[top];
         }
     }
 
@@ -1440,7 +1447,7 @@ public final class OilHome {
         private static final int OPEN = 6;
         private static final int END = -1;
 
-        private Tape tape;
+        private int[] bytes;
         private Text text;
         private int lead;
         private int place;
@@ -1448,12 +1455,12 @@ public final class OilHome {
         int fault;
 
         Reader() {
-            tape = new Tape();
+            bytes = new int[0];
             text = new Text(0);
         }
 
-        Text read(Tape from, int n, char letter) {
-            tape = from;
+        Text read(Tape tape, int n, char letter) {
+            bytes = tape.bytes;
             text = new Text(n);
             lead = letter;
             place = 0;
@@ -1471,7 +1478,7 @@ public final class OilHome {
         }
 
         private int peek() {
-            return place < end ? tape.at(place) : END;
+            return place >= 0 && place < end && place < bytes.length ? bytes[place] : END;
         }
 
         private void fail(int number) {
@@ -1552,21 +1559,21 @@ public final class OilHome {
                     take(')');
                 }
             } else {
-                readComparison(open);
+                readSum(open);
+                int kind = readRelation();
+                readSum(open);
+                text.add(kind, 0);
             }
         }
 
-        private void readComparison(int open) {
-            readSum(open);
+        private int readRelation() {
             int sign = peek();
-            int kind = sign == '<' ? Text.LESS : sign == '>' ? Text.MORE : Text.SAME;
-            if (sign != '<' && sign != '>' && sign != '=') {
+            if (sign == '<' || sign == '>' || sign == '=') {
+                place++;
+            } else {
                 fail(MISPLACED);
-                return;
             }
-            place++;
-            readSum(open);
-            text.add(kind, 0);
+            return sign == '<' ? Text.LESS : sign == '>' ? Text.MORE : Text.SAME;
         }
 
         private void readSum(int open) {
@@ -1771,7 +1778,7 @@ public final class OilHome {
         }
     }
 
-    /** Shortest ways from the depot through stops and back. Stops stand by the numbers of their kitchens, sets of them are bits. */
+    /** Shortest ways from the depot through stops and back. Stops stand by their kitchens' numbers, sets of them are bits. */
     private static final class Ways {
         final int[] kitchens = new int[ROUND_STOPS];
         final int[] fills = new int[ROUND_STOPS];
@@ -1779,6 +1786,7 @@ public final class OilHome {
         private final int[] ys = new int[ROUND_STOPS];
         /** By a set and a stop outside it: the shortest way from that stop through the set and home. */
         private final int[] rests = new int[ROUND_STOPS << ROUND_STOPS];
+        private final int[] rounds = new int[1 << ROUND_STOPS];
         int count;
 
         static int way(int x, int y, int toX, int toY) {
@@ -1809,6 +1817,7 @@ public final class OilHome {
                         Tables.put(rests, set * ROUND_STOPS + from, shortest(from, set));
                     }
                 }
+                Tables.put(rounds, set, shortest(NONE, set));
             }
         }
 
@@ -1829,7 +1838,7 @@ public final class OilHome {
         }
 
         int lengthOf(int set) {
-            return shortest(NONE, set);
+            return Tables.at(rounds, set);
         }
 
         int wholeLength() {
