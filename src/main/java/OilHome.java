@@ -248,7 +248,7 @@ public final class OilHome {
 
     // ---- more than luck
 
-    /** No step outgrows 64 bits: the greatest, 31 times 60 over 29, is below 4 * 10^18. */
+    /** No step outgrows 64 bits: the greatest, the ways of 29 of 60 times 31, is below 4 * 10^18. */
     private static long choose(int n, int k) {
         if (k < 0 || k > n) {
             return 0;
@@ -261,7 +261,7 @@ public final class OilHome {
         return ways;
     }
 
-    /** A hundred steps are enough: every two of them halve what is left of 63 bits, and 10^17 has 57. */
+    /** The bound is never met: every two steps halve what is left, and no number has more than 63 bits. */
     private static long divisor(long a, long b) {
         for (int i = 0; i < 200 && b != 0; i++) {
             long rest = a % b;
@@ -534,14 +534,18 @@ public final class OilHome {
 
     // ---- batches
 
-    private int brokenClause(Batch batch) {
+    /** What is alike for all sets of loads is put once, as a blend tries some thousand of them. */
+    private void lettersOfLaw() {
         lettersOfDay(today);
-        letter('q', batch.litres);
-        letter('f', batch.water());
-        letter('a', batch.acid());
         letter('k', 0);
         letter('m', 0);
         letter('s', 0);
+    }
+
+    private int brokenClause(Batch batch) {
+        letter('q', batch.litres);
+        letter('f', batch.water());
+        letter('a', batch.acid());
         letter('n', batch.loads);
         return law.firstThat(false, letters);
     }
@@ -574,6 +578,7 @@ public final class OilHome {
         if (batch == null) {
             return NONE;
         }
+        lettersOfLaw();
         int broken = brokenClause(batch);
         if (broken != NONE) {
             return -10 - broken;
@@ -630,6 +635,7 @@ public final class OilHome {
     public int blend() {
         int[] row = new int[BLENDED_LOADS];
         int count = gatherBlendable(row);
+        lettersOfLaw();
         Batch mix = new Batch();
         int best = 0;
         int mostLitres = 0;
@@ -1338,7 +1344,7 @@ public final class OilHome {
         int firstThat(boolean holds, int[] letters) {
             for (int clause = 0; clause < clauses; clause++) {
                 int from = Tables.at(conditionFrom, clause);
-                if (run(from, Tables.at(conditionTo, clause), letters) != 0 == holds) {
+                if ((run(from, Tables.at(conditionTo, clause), letters) != 0) == holds) {
                     return clause;
                 }
             }

@@ -181,6 +181,14 @@ public final class BatchesTest {
         C.due("without litres: one load", y.blend(), 1);
         Checks.law(y, "l(n>1)");
         C.due("without litres: two", y.blend(), 3);
+        OilHome v = loads(10, 20, 30, 30);
+        Checks.law(v, "l(q<31)");
+        C.due("one load, though a greater set", v.blend(), 4);
+        OilHome w = loads(10, 10, 10, 15, 15, 30);
+        Checks.law(w, "l(q<31)");
+        C.due("three, two, one", w.blend(), 32);
+        Checks.law(w, "l(q<31);l(n>1)");
+        C.due("three, two", w.blend(), 24);
         OilHome z = loads(10, 10, 20, 20);
         Checks.law(z, "l(q<31)");
         C.due("30 by 0 and 2", z.blend(), 5);
@@ -354,6 +362,8 @@ public final class BatchesTest {
         C.due("one of three", x.claim(0, 61, 0), 0);
         C.due("one of three, by its error", x.claim(0, 61, 1), 1);
         C.due("all", x.claim(0, 0, 1000), 1);
+        C.due("1000 by 950", x.claim(0, 1000, 950), 1);
+        C.due("1000", x.claim(0, 1000, 0), 0);
         C.due("w -1", x.claim(0, -1, 0), -1);
         C.due("w 1001", x.claim(0, 1001, 0), -1);
         C.due("e -1", x.claim(0, 0, -1), -1);

@@ -80,6 +80,11 @@ public final class BuyersTest {
         offer(x, 46, 20, 260, 1);
         offer(x, 20, 0, 0, 0);
         offer(x, 0, 0, 0, 0);
+        OilHome z = new OilHome();
+        z.kitchen(0, 0, 10, 100);
+        offer(z, 100, 0, 1000, 1);
+        z.offers(0, 1, 1);
+        offer(z, 100, 1, 990, 1);
         OilHome y = new OilHome();
         y.kitchen(0, 0, 1, 100);
         y.kitchen(0, 0, 1, 100);
@@ -104,6 +109,13 @@ public final class BuyersTest {
         C.due("told", x.lock(1, 1), 1000);
         C.yes("anew", x.thefts(23, 7));
         C.due("told anew", x.lock(1, 1), 7);
+        C.yes("none any more", x.thefts(23, 0));
+        C.due("none any more", x.lock(1, 1), 0);
+        C.yes("hour 1", x.thefts(1, 5));
+        C.due("hour 1", x.lock(1, 0), 1);
+        C.yes("hour 0", x.thefts(0, 6));
+        C.due("hour 0", x.lock(1, 0), 0);
+        C.due("hour 0", x.lock(1, 1), 6);
     }
 
     private static void lock() {
@@ -215,5 +227,9 @@ public final class BuyersTest {
         C.due("of its own", x.overdrawn(1), 0);
         C.no("refused", x.most(2, -5));
         C.due("stays", x.overdrawn(1), 0);
+        C.yes("nothing", x.most(2, 0));
+        C.due("more than nothing", x.overdrawn(1), 4);
+        x.proof(0, 0, 1, 0);
+        C.due("buyer 0", x.overdrawn(1), 5);
     }
 }

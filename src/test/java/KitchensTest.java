@@ -14,6 +14,7 @@ public final class KitchensTest {
         missing();
         feed();
         count();
+        countAll();
         C.end();
     }
 
@@ -202,6 +203,30 @@ public final class KitchensTest {
             {BIG, -1}, {SMALL, -1}};
         for (int[] other : others) {
             C.due("count(" + other[0] + ")", x.count(other[0]), other[1]);
+        }
+    }
+
+    private static void countAll() {
+        OilHome x = new OilHome();
+        x.now(99);
+        for (int k = 0; k < 10; k++) {
+            x.kitchen(0, 0, 1, 20);
+            x.fetch(k, 60 + k, 5, 0, 0, 60 + k);
+            x.street(k, 9 - k);
+        }
+        Checks.contract(x, 8, "p1(1=1)");
+        Checks.contract(x, 9, "p1(1=1);p1(1=1)");
+        for (int b = 0; b < 10; b++) {
+            x.now(100 + b);
+            x.batch(1 << b);
+            x.proof(b, 0, 1, 0);
+        }
+        for (int k = 0; k < 10; k++) {
+            C.due("clauses of " + k, x.count(10 + k), Math.max(0, k - 7));
+            C.due("emptied " + k, x.count(20 + k), 60 + k);
+            C.due("street of " + k, x.count(30 + k), 9 - k);
+            C.due("batch " + k, x.count(40 + k), 100 + k);
+            C.due("proof " + k, x.count(50 + k), 100 + k);
         }
     }
 }

@@ -4,6 +4,7 @@ public final class LuckTest {
 
     public static void main(String[] args) {
         beyond();
+        missingOne();
         streets();
         cheat();
         greatest();
@@ -40,6 +41,19 @@ public final class LuckTest {
         odds("g 6", x, 6, 1, 1, 0);
     }
 
+    private static void missingOne() {
+        OilHome x = new OilHome();
+        x.kitchen(0, 0, 10, 100);
+        x.now(399);
+        x.fetch(0, 1, 8, 0, 0, 1);
+        C.due("one litre", x.missing(0), 1);
+        x.fetch(0, 9, 72, 0, 0, 9);
+        C.due("not one", x.missing(1), 0);
+        odds("it is missing", x, 1, 1, 2, 1);
+        C.due("it is missing", x.streets(0, 2), 1);
+        C.due("surely: all are in it", x.streets(0, 1), 1);
+    }
+
     private static void streets() {
         OilHome x = new OilHome();
         for (int k = 0; k < 3; k++) {
@@ -74,6 +88,11 @@ public final class LuckTest {
         C.due("street 9 above", x.streets(9, 0), 1);
         C.due("street 9 below", x.streets(9, 1), 4);
         C.due("street 9 both", x.streets(9, 2), 3);
+        C.yes("0 moves back", x.street(0, 0));
+        C.due("street 9 both", x.streets(9, 2), 2);
+        C.due("kept", x.count(30), 0);
+        C.no("refused", x.street(2, 10));
+        C.due("stays", x.count(32), 9);
     }
 
     private static void cheat() {
@@ -104,6 +123,15 @@ public final class LuckTest {
         C.due("1000", x.cheat(0, 1000, 2), 0);
         C.due("0", x.cheat(0, 0, 2), 3);
         C.due("0 above", x.cheat(0, 0, 0), 1);
+        // A seventh load, dry, of kitchen 0: of 7, 3 from 400 on, all of the 3 of kitchen 1: 1 of 35.
+        x.fetch(0, 0, 5, 0, 0, 0);
+        C.due("400 above", x.cheat(1, 400, 0), 1);
+        C.due("400 below", x.cheat(1, 400, 1), 35);
+        // From 200 on 5 of 7; of kitchen 0 2 of 4: all but none of it, as 2 or more are sure.
+        C.due("200 above", x.cheat(0, 200, 0), 1);
+        C.due("200 below", x.cheat(0, 200, 1), 1);
+        C.due("200 of 1 below: C(5,3) of C(7,3)", x.cheat(1, 200, 1), 7);
+        C.due("200 of 1 above", x.cheat(1, 200, 0), 2);
     }
 
     /** 60 loads, 30 of them wet and all of one kitchen: the greatest number below the line. */

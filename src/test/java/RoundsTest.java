@@ -196,6 +196,15 @@ public final class RoundsTest {
         y.lorry(100);
         y.lorry(150);
         shares(y, 10, 10, 18, 0, 1, 1);
+        OilHome z = new OilHome();
+        z.kitchen(1, 0, 50, 121);
+        z.lorry(120);
+        C.due("a litre too much", z.shared(10, 1, -1), -2);
+        z.kitchen(90, 0, 0, 20);
+        C.due("still", z.shared(10, 1, -1), -2);
+        z.lorry(121);
+        shares(z, 10, 121, 2, 1, -1);
+        shares(z, 2, 100, 2, 0, -1);
     }
 
     private static void nights(OilHome x, int day, int n, int litres, int... due) {
@@ -231,6 +240,7 @@ public final class RoundsTest {
         C.due("day -1", x.nights(-1, 1, 1, 0), -1);
         C.due("day 400", x.nights(400, 1, 1, 0), -1);
         C.due("n 0", x.nights(0, 0, 1, 0), -1);
+        C.due("n 0 of day 1", x.nights(1, 0, 1, 0), -1);
         C.due("n 8", x.nights(0, 8, 1, 0), -1);
         C.due("litres 0", x.nights(0, 1, 0, 0), -1);
         C.due("litres 401", x.nights(0, 1, 401, 0), -1);

@@ -12,6 +12,8 @@ public final class TextsTest {
         letters();
         sums();
         refused();
+        refusedOften();
+        lettersOfOthers();
         conditions();
         bounds();
         price();
@@ -65,9 +67,10 @@ public final class TextsTest {
             "p1(1=1&&1=1)", "p1(!)", "p1(1!=1)", "p1(!1=!1)", "p1((1)=1)", "p1((1=1)", "p1((1=1)=1)", "p1(1=1)p1(1=1)",
             "p1(1=1)&(1=1)", "p1[1](1=1)", "p1q(1=1)", "pq1(1=1)", "pqf(1=1)", "p1(p=1)", "p1(l=1)", "p1(Q=1)",
             "p-1(1=1)", "p1([1=1])", "p1(1=1]", "p1(1=(1))", "p!1(1=1)", "p1;p2(1=1)", "p1(1=1|(1=1)", "p1(\u00ff=1)",
-            "p1(1=[1)", "p1(!(1=1)!)", "p1(1+=1)", "p1(1=1;1=1)", "p1(,)", "pe(1=1)", "p1(1=1)1"};
+            "p1(1=[1)", "p1(!(1=1)!)", "p1(1+=1)", "p1(1=1;1=1)", "p1(,)", "pe(1=1)", "p1(1=1)1",
+            "p1(1[1])", "p1(qf)", "p1(1=1 )", "p1(2(1=1))"};
         int[] places = {0, 0, 1, 1, 2, 3, 3, 4, 5, 6, 7, 8, 8, 8, 3, 1, 3, 3, 2, 2, 1, 5, 6, 7, 7, 3, 7, 4, 4, 6, 5, 8, 8,
-            7, 7, 2, 2, 2, 2, 3, 3, 3, 1, 5, 6, 5, 1, 2, 12, 3, 7, 9, 5, 6, 3, 1, 7};
+            7, 7, 2, 2, 2, 2, 3, 3, 3, 1, 5, 6, 5, 1, 2, 12, 3, 7, 9, 5, 6, 3, 1, 7, 4, 4, 6, 4};
         C.due("as many places", places.length, texts.length);
         for (int i = 0; i < texts.length; i++) {
             fault(x, texts[i], -1000 - places[i]);
@@ -220,7 +223,36 @@ public final class TextsTest {
         pays("p5(1=1&(1=1|1/0=1));p1/0(1=1)", 5);
     }
 
+    /** What waited when a sum was refused must not stay for the next. */
+    private static void refusedOften() {
+        OilHome x = kitchens(1);
+        x.fetch(0, 0, 1, 0, 0, 0);
+        Checks.contract(x, 0, "p1+2*[3+4*[o/o]](1=1)");
+        for (int i = 0; i < 60; i++) {
+            C.due("refused", x.pence(0), 0);
+        }
+        x.price(0, 5);
+        C.due("not any more", x.pence(0), 1 + 2 * 7);
+    }
+
+    /** The letters of a load are none of the next batch's, and the other way about. */
+    private static void lettersOfOthers() {
+        OilHome x = kitchens(2);
+        x.now(20);
+        x.fetch(1, 9, 5, 0, 0, 9);
+        x.fetch(1, 18, 5, 0, 0, 18);
+        Checks.contract(x, 1, "pn+k*2(m>0&s>0)");
+        Checks.law(x, "l(k=0);l(m=0);l(s=0);l(n=2)");
+        C.due("a load", x.pence(1), 2);
+        C.due("a batch", x.batch(1), -13);
+        C.due("a load", x.pence(1), 2);
+        C.due("a batch", x.batch(3), 0);
+        C.due("a load", x.pence(1), 2);
+    }
+
     private static void conditions() {
+        pays("p5(!2>1);p9(1=1)", 9);
+        pays("p5(!1<2);p9(1=1)", 9);
         pays("p5(1<2);p9(1=1)", 5);
         pays("p5(2<2);p9(1=1)", 9);
         pays("p5(2>1);p9(1=1)", 5);

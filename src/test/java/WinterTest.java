@@ -164,6 +164,16 @@ public final class WinterTest {
         C.due("load 3", x.feasted(3, 0), -1);
         x.fetch(0, 30, 0, 0, 0, 30);
         C.due("on the same day", x.feasted(3, 0), 0);
+        OilHome y = new OilHome();
+        y.kitchen(0, 0, 50, 400);
+        y.now(1);
+        y.fetch(0, 1, 0, 0, 0, 1);
+        int[][] due = {{0, 50}, {1, 50}, {2, 51}, {98, 99}, {99, 99}, {100, 100}, {300, 200}};
+        for (int[] row : due) {
+            y.feast(1, row[0]);
+            C.due("50 and " + row[0] + " in the hundred more", y.feasted(0, 0), row[1]);
+        }
+        C.due("200 less 20", y.feasted(0, 1), 180);
     }
 
     private static void drums() {
@@ -207,6 +217,9 @@ public final class WinterTest {
         C.yes("the other one", x.moves(1, 1, 0));
         C.due("of its own", x.stood(1, 0), 1);
         C.due("of its own", x.stood(1, 399), 1);
+        x.now(399);
+        C.yes("on 399", x.moves(0, 0, 399));
+        C.no("ahead of 399", x.moves(0, 0, 398));
     }
 
     private static void manyMoves() {
@@ -253,6 +266,9 @@ public final class WinterTest {
         C.due("behind now", x.spill(6, 1), -1);
         C.due("litres 0", x.spill(0, 0), -1);
         C.due("litres 401", x.spill(0, 401), -1);
+        OilHome y = new OilHome();
+        C.due("on day 0", y.spill(0, 1), 1);
+        C.due("one litre", y.stock(0), -1);
         for (int n = 1; n <= 40; n++) {
             C.due("spill " + n, x.spill(5, 400), n);
         }
