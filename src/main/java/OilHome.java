@@ -1359,7 +1359,11 @@ public final class OilHome {
         private int run(int from, int to, int[] letters) {
             top = 0;
             refused = false;
+            int jumped = from;
             for (int at = from; at < to && !refused; at++) {
+                if (at < jumped) {
+                    continue;
+                }
                 int step = Tables.at(steps, at);
                 int argument = step & ARGUMENT;
                 switch (step >> KIND) {
@@ -1373,10 +1377,10 @@ public final class OilHome {
                         push(1 - pop());
                         break;
                     case AND:
-                        at = decided(0) ? Math.max(at, argument - 1) : at;
+                        jumped = decided(0) ? argument : jumped;
                         break;
                     case OR:
-                        at = decided(1) ? Math.max(at, argument - 1) : at;
+                        jumped = decided(1) ? argument : jumped;
                         break;
                     default:
                         int right = pop();

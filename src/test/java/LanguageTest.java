@@ -71,9 +71,10 @@ public final class LanguageTest {
                 fields += line.endsWith(";") && !line.contains("static") ? 1 : 0;
                 C.due("at most 20 fields at line " + i, fields <= 20 ? 1 : 0, 1);
                 Matcher method = Pattern.compile("^ +(public|private)? ?.*?(\\w+)\\([^)]*\\) \\{$").matcher(line);
+                boolean open = !inner && !line.contains("private") && !line.contains("public");
+                C.due("public or private at line " + (i + 1), open ? 1 : 0, 0);
                 if (method.matches() && !inner) {
                     ("public".equals(method.group(1)) ? faces : others).add(method.group(2));
-                    C.due("public or private: " + line, method.group(1) == null ? 1 : 0, 0);
                 }
             }
             if (line.equals(" ".repeat(indent) + "}")) {
