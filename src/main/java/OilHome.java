@@ -467,8 +467,10 @@ public final class OilHome {
         return Tables.at(tables.off, l * DAYS + day) != 0;
     }
 
+    /** Only a kitchen that is there, but to which none goes, is told behind what can't be. */
     public int shared(int day, int litres, int what) {
-        if (!isDay(day) || !within(litres, 1, MOST_LITRES)) {
+        boolean asked = what == NONE || kitchenAt(what) != null;
+        if (!isDay(day) || !within(litres, 1, MOST_LITRES) || !asked) {
             return NONE;
         }
         if (!startTrial(day) || !gatherStops(day, litres, SHARED_STOPS)) {

@@ -488,8 +488,14 @@ public final class OracleTest {
             }
         }
         C.due("shared", x.shared(day, litres, -1), best == null ? -2 : least);
+        int[] lorryOf = new int[kitchens];
+        java.util.Arrays.fill(lorryOf, best == null ? -2 : -1);
         for (int i = 0; best != null && i < stops.length; i++) {
-            C.due("shared " + i, x.shared(day, litres, stops[i]), best[i]);
+            lorryOf[stops[i]] = best[i];
+        }
+        for (int k = -3; k < 12; k++) {
+            int due = k >= 0 && k < kitchens ? lorryOf[k] : -1;
+            C.due("shared of " + k, k == -1 ? -1 : x.shared(day, litres, k), due);
         }
     }
 

@@ -146,7 +146,11 @@ public final class RoundsTest {
         x.lorry(150);
         C.due("240 litres", x.shared(20, 1, -1), -2);
         C.due("-2 ahead of a kitchen to which none goes", x.shared(20, 1, 2), -2);
-        C.due("-2 ahead of a kitchen that is not there", x.shared(20, 1, 77), -2);
+        C.due("a kitchen that is not there ahead of -2", x.shared(20, 1, 4), -1);
+        C.due("10 ahead of -2", x.shared(20, 1, 10), -1);
+        C.due("MAX ahead of -2", x.shared(20, 1, Integer.MAX_VALUE), -1);
+        C.due("below NONE ahead of -2", x.shared(20, 1, -2), -1);
+        C.due("MIN ahead of -2", x.shared(20, 1, Integer.MIN_VALUE), -1);
         shares(x, 20, 81, 20, 0, -1, -1, -1, -1);
         shares(x, 20, 101, 0, -1, -1, -1, -1);
         x.lorry(90);
@@ -183,9 +187,13 @@ public final class RoundsTest {
         x.kitchen(0, 0, 9, 100);
         shares(x, 10, 91, 10, 0, 0, 0, 0, 0, 0, -1);
         C.due("seven", x.shared(10, 90, -1), -2);
+        C.due("seven, of one of them", x.shared(10, 90, 6), -2);
+        C.due("seven, of a kitchen that is not there", x.shared(10, 90, 7), -1);
         x.now(20);
         x.fetch(6, 12, 1, 0, 0, 12);
         C.due("emptied behind", x.shared(11, 91, -1), -2);
+        C.due("emptied behind, of a kitchen to which none goes", x.shared(11, 91, 6), -2);
+        C.due("emptied behind, of a kitchen that is not there", x.shared(11, 91, 7), -1);
         C.due("emptied behind, litres 0", x.shared(11, 0, -1), -1);
         C.due("on that day", x.shared(12, 91, -1), 10);
         // Kitchen 0 is at the depot, on the way of either, but 200 litres do not fit into the second.
