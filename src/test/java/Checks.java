@@ -1,3 +1,5 @@
+import java.util.function.IntToLongFunction;
+
 /** Counts answers that are not as due, and feeds the tape with texts and numbers. */
 final class Checks {
     private final String what;
@@ -24,6 +26,19 @@ final class Checks {
         due(call, got ? 1 : 0, 0);
     }
 
+    static long of(boolean answer) {
+        return answer ? 1 : 0;
+    }
+
+    /** The last values that are let in, on both sides, and the first that are not; far beyond them as well. */
+    void bounds(String what, int least, int most, long in, long out, IntToLongFunction call) {
+        due(what + " " + least, call.applyAsLong(least), in);
+        due(what + " " + most, call.applyAsLong(most), in);
+        for (int beyond : new int[] {least - 1, most + 1, Integer.MIN_VALUE, Integer.MAX_VALUE}) {
+            due(what + " " + beyond, call.applyAsLong(beyond), out);
+        }
+    }
+
     void end() {
         System.out.println(what + ": " + asked + " answers, " + wrong + " not as due");
         if (wrong != 0) {
@@ -31,7 +46,7 @@ final class Checks {
         }
     }
 
-    static int feedBytes(OilHome x, int[] bytes) {
+    static int feedBytes(OilHome x, int... bytes) {
         int has = x.count(3);
         for (int at = 0; at < bytes.length; at += 20) {
             int[] five = new int[5];
