@@ -13,6 +13,7 @@ public final class BoundsOfTextsTest {
         noBlanks();
         theEndCanNotStandThere();
         nothingElseCanStandThere();
+        lawHasNoE();
         clausesAreTwelve();
         clausesBetweenTwo();
         numbersHaveOneToSixDigits();
@@ -200,6 +201,20 @@ public final class BoundsOfTextsTest {
             int answer = Checks.contract(Firms.kitchens(1), 0, text + sign);
             C.due("sign " + (int) sign + " behind", answer, sign == ';' ? -1011 : -1010);
         }
+    }
+
+    private static void lawHasNoE() {
+        lawFault("l(1=1)", 1);
+        lawFault("l1(1=1)", -1001);
+        lawFault("lq(1=1)", -1001);
+        lawFault("l[1](1=1)", -1001);
+        lawFault("p1(1=1)", -1000);
+        lawFault("L(1=1)", -1000);
+        lawFault("l(1=1);p1(1=1)", -1007);
+        fault("l(1=1)", -1000);
+        fault("p(1=1)", -1001);
+        fault("P1(1=1)", -1000);
+        fault("p1(1=1);l(1=1)", -1008);
     }
 
     private static void clausesAreTwelve() {
