@@ -6,7 +6,10 @@ import java.util.Comparator;
 import java.util.List;
 import java.util.Random;
 
-/** Calls of all kinds with likely, edge and wild arguments: none throws, and none that is refused changes what is counted. */
+/**
+ * Calls of all kinds with likely, edge and wild arguments: none throws, and none that is refused changes what is counted.
+ * Behind its 512th call an object's answers are free, so there it is only seen that none throws.
+ */
 public final class NeverThrowsTest {
     private static final Checks C = new Checks("NeverThrowsTest");
     private static final Random R = new Random(7);
@@ -24,13 +27,17 @@ public final class NeverThrowsTest {
         }
         calls.sort(Comparator.comparing(Method::getName));
         C.due("methods of the face", calls.size(), 59);
-        for (int run = 0; run < 600; run++) {
+        for (int run = 0; run < 2400; run++) {
             OilHome x = new OilHome();
             if (run % 3 > 0) {
                 furnish(x);
             }
-            for (int call = 0; call < 400; call++) {
-                ask(x, calls.get(R.nextInt(calls.size())));
+            // Some 150 calls furnish it, and one asks for six more at most.
+            for (int call = 0; call < 55; call++) {
+                ask(x, calls.get(R.nextInt(calls.size())), true);
+            }
+            for (int call = 0; run % 8 == 0 && call < 800; call++) {
+                ask(x, calls.get(R.nextInt(calls.size())), false);
             }
         }
         C.end();
@@ -69,15 +76,7 @@ public final class NeverThrowsTest {
         }
     }
 
-    private static int[] counts(OilHome x) {
-        int[] counts = new int[90];
-        for (int what = 0; what < counts.length; what++) {
-            counts[what] = what == 3 ? 0 : x.count(what);
-        }
-        return counts;
-    }
-
-    private static void ask(OilHome x, Method call) throws IllegalAccessException {
+    private static void ask(OilHome x, Method call, boolean promised) throws IllegalAccessException {
         if (R.nextInt(8) == 0) {
             Checks.feedText(x, TEXTS[R.nextInt(TEXTS.length)]);
         }
@@ -89,13 +88,15 @@ public final class NeverThrowsTest {
             arguments[i] = kinds[i] == boolean.class ? (Object) R.nextBoolean()
                     : (Object) argument(i == wild ? R.nextInt(5) : 2 + R.nextInt(7));
         }
-        int[] counts = counts(x);
+        // The tape may be emptied where a call is refused.
+        int counted = (R.nextInt(89) + 4) % 90;
+        long before = promised ? x.count(counted) : 0;
         String told = call.getName() + Arrays.toString(arguments);
         try {
             Object answer = call.invoke(x, arguments);
             boolean refused = answer.equals(false) || answer instanceof Number n && n.longValue() < 0;
-            if (refused) {
-                C.due(told + " was refused, but changed something", Arrays.equals(counts, counts(x)) ? 1 : 0, 1);
+            if (promised && refused) {
+                C.due(told + " was refused, but changed count(" + counted + ")", x.count(counted), before);
             }
         } catch (InvocationTargetException thrown) {
             C.due(told + " threw " + thrown.getCause(), 1, 0);
