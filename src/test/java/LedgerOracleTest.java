@@ -3,9 +3,9 @@ import java.util.List;
 import java.util.Random;
 
 /**
- * Made-up firms again, for what OracleTest does not ask: offers, thefts, sewers, winter, drums, taxes, samples, checks and
- * counts, told and asked in turn, with numbers at their bounds and beyond. The model keeps what was told as it was told,
- * and answers each question from the whole of it.
+ * Made-up firms again, for what OracleTest does not ask: what is likely, ways that were driven, offers, thefts, sewers,
+ * winter, drums, taxes, samples, checks and counts, told and asked in turn, with numbers at their bounds and beyond. The
+ * model keeps what was told as it was told, and answers each question from the whole of it.
  */
 public final class LedgerOracleTest {
     private static final Checks C = new Checks("LedgerOracleTest");
@@ -142,16 +142,15 @@ public final class LedgerOracleTest {
 
     private void tellOfKitchens() {
         int k = oneOf(kitchens);
-        switch (R.nextInt(5)) {
+        switch (R.nextInt(7)) {
             case 0:
                 int[] p = {near(0, 99), near(0, 99), R.nextInt(3) == 0 ? 0 : near(0, 50), near(20, 400)};
                 boolean may = in(0, p[0], 99) && in(0, p[1], 99) && in(0, p[2], 50) && in(20, p[3], 400);
                 numbered("kitchen", x.kitchen(p[0], p[1], p[2], p[3]), may && kitchens.size() < 10, kitchens, p);
                 break;
             case 1:
-                int day = R.nextInt(6) > 0 ? Math.min(399, now + R.nextInt(9)) : near(0, 399);
-                // Few firms grow old early.
-                day = R.nextInt(20) > 0 ? Math.min(day, now + 9) : day;
+                // A firm that comes to the last day early has little left to tell.
+                int day = R.nextInt(20) > 0 ? Math.min(400, now + from(-1, 9)) : near(0, 399);
                 boolean is = in(now, day, 399);
                 C.due("now " + day, Checks.of(x.now(day)), Checks.of(is));
                 now = is ? day : now;
@@ -159,6 +158,14 @@ public final class LedgerOracleTest {
             case 2:
                 int s = near(0, 9);
                 told("street", x.street(k, s), is(kitchens, k) && in(0, s, 9), streets, k, s);
+                break;
+            case 3:
+                int on = near(Math.min(399, emptied(k)), 399);
+                int likely = is(kitchens, k) ? Math.min(kitchens.get(k)[3], kitchens.get(k)[2] * (on - emptied(k))) : -1;
+                C.due("likely", x.likely(k, on), in(emptied(k), on, 399) ? likely : -1);
+                break;
+            case 4:
+                drive();
                 break;
             default:
                 int[] l = {k, near(emptied(k), now > emptied(k) ? now : emptied(k)), near(0, 400), near(0, 1000), near(0, 1000),
@@ -169,6 +176,21 @@ public final class LedgerOracleTest {
                 numbered("fetch", x.fetch(l[0], l[1], l[2], l[3], l[4], l[5]), known, loads, l);
                 break;
         }
+    }
+
+    private void drive() {
+        int[] row = new int[R.nextInt(5)];
+        int length = 0;
+        int[] at = {0, 0};
+        for (int i = 0; i < row.length; i++) {
+            row[i] = R.nextInt(Math.max(1, kitchens.size() + (R.nextInt(9) > 0 ? 0 : 1)));
+            int[] to = is(kitchens, row[i]) ? kitchens.get(row[i]) : null;
+            length = to == null || length < 0 ? -1 : length + Math.abs(to[0] - at[0]) + Math.abs(to[1] - at[1]);
+            at = to == null ? at : to;
+        }
+        calls += 2;
+        C.due("driven", Checks.driven(x, row), length < 0 ? -1 : length + at[0] + at[1]);
+        tape = 0;
     }
 
     private int emptied(int k) {
